@@ -17,11 +17,13 @@ public final class FlowExporter {
 
     private static final int FIELDS = 9;
     private static final int ALL_FIELDS = 511;
+    private static final int PROTOCOL = 3;
     private static final int PACKETS = 4;
     private static final int BYTES = 5;
     private static final int FIRST = 6;
     private static final int LAST = 7;
     private static final int RATE = 8;
+    private static final int MOST_RECORD = 29;
     private static final int[] FIELD_BYTES = {1, 1, 2, 1, 4, 8, 4, 4, 4};
     private static final String FIELD_WORDS = "source destination port protocol packets bytes first last rate";
 
@@ -37,6 +39,7 @@ public final class FlowExporter {
     private static final int TEMPLATE = 9;
     private static final int USE = 10;
     private static final int DROP = 11;
+    private static final int SETTINGS = 9;
     private static final int[] LEAST = {1, 1, 1, 1, 1, 1, 1, 256, 1};
     private static final int[] MOST = {1024, 1000, 10000, 10000, 1000, 100000, 100000, 600, 1024};
     private static final int[] USUAL = {1, 100, 1000, 100, 20, 1000, 5000, 512, 1};
@@ -81,16 +84,18 @@ public final class FlowExporter {
         exporter = new Exporter(config, sender);
         sums = new Sums();
         collector = new Collector(config, sums);
-        config.clear();
-        config.addUsualTemplate();
+        // The input is empty yet, and an empty text has no error.
+        parser.readText();
         startAnew();
     }
 
+    /** Begins anew with what the parser has read. */
     private void startAnew() {
+        config.copyFrom(parser.config);
         queue.clear();
         sender.clear();
         exporter.clear();
-        sums.clear();
+        sums.size = 0;
         collector.clear();
     }
 
@@ -120,18 +125,17 @@ public final class FlowExporter {
         int statements = parser.readText();
         input.length = 0;
         if (statements >= 0) {
-            config.copyFrom(parser.config);
             startAnew();
         }
         return statements;
     }
 
     public int errorCode() {
-        return parser.errorCode;
+        return parser.code;
     }
 
     public int errorPosition() {
-        return parser.errorPosition;
+        return parser.position;
     }
 
     // ---- the exporter ----
@@ -140,20 +144,23 @@ public final class FlowExporter {
         return exporter.now;
     }
 
+    private static void requirePackets(long key, int bytes, int count) {
+        if (key == NONE || bytes < 1 || bytes > 65535 || count < 1 || count > 200) {
+            throw new IllegalArgumentException();
+        }
+    }
+
     public boolean observe(int source, int destination, int port, int protocol, int bytes)
             throws IllegalArgumentException {
-        return countSampled(Flow.keyOf(source, destination, port, protocol), bytes, 1) == 1;
+        long key = Flow.keyOf(source, destination, port, protocol);
+        requirePackets(key, bytes, 1);
+        return exporter.takePackets(key, bytes, 1) == 1;
     }
 
     public int observeMany(int source, int destination, int port, int protocol, int bytes, int count)
             throws IllegalArgumentException {
-        return countSampled(Flow.keyOf(source, destination, port, protocol), bytes, count);
-    }
-
-    private int countSampled(long key, int bytes, int count) {
-        if (key == NONE || bytes < 1 || bytes > 65535 || count < 1 || count > 200) {
-            throw new IllegalArgumentException();
-        }
+        long key = Flow.keyOf(source, destination, port, protocol);
+        requirePackets(key, bytes, count);
         return exporter.takePackets(key, bytes, count);
     }
 
@@ -194,7 +201,7 @@ public final class FlowExporter {
     }
 
     public int rateBits() {
-        return Numbers.bitsOfInverse(exporter.rate);
+        return Exporter.bitsOfInverse(exporter.rate);
     }
 
     public int setRate(int rate) {
@@ -225,7 +232,7 @@ public final class FlowExporter {
 
     public int restartExporter() {
         int flows = exporter.cache.size;
-        exporter.cache.clear();
+        exporter.cache.size = 0;
         sender.restart();
         return flows;
     }
@@ -256,22 +263,22 @@ public final class FlowExporter {
 
     public int templateFields(int template) throws IndexOutOfBoundsException {
         requireTemplate(template);
-        return config.fieldSet(template);
+        return config.template(template).set;
     }
 
     public int effectiveFields(int template) throws IndexOutOfBoundsException {
         requireTemplate(template);
-        return config.effectiveSet(template);
+        return config.effective(template).set;
     }
 
     public int fieldAt(int template, int place) throws IndexOutOfBoundsException {
         requireTemplate(template);
-        return config.field(template, place);
+        return config.template(template).field(place);
     }
 
     public int recordLength(int template) throws IndexOutOfBoundsException {
         requireTemplate(template);
-        return config.recordBytes(template);
+        return config.effective(template).recordBytes;
     }
 
     public boolean setSupport(int field, boolean supported) throws IllegalArgumentException {
@@ -280,7 +287,7 @@ public final class FlowExporter {
         }
         boolean before = (config.supported >> field & 1) == 1;
         if (before != supported) {
-            config.supported ^= 1 << field;
+            config.support(config.supported ^ 1 << field);
             sender.forgetTemplatesWith(field);
         }
         return before;
@@ -352,7 +359,8 @@ public final class FlowExporter {
         if (queue.size == MOST_MESSAGES) {
             return false;
         }
-        queue.freeMessage().copyFrom(queue.messageAt(index));
+        Message message = queue.messageAt(index);
+        queue.freeMessage().putFrom(message, 0, message.length);
         queue.addFreeMessage();
         return true;
     }
@@ -387,7 +395,7 @@ public final class FlowExporter {
     }
 
     public long expected() {
-        return collector.started() ? collector.expectedNumber & UNSIGNED : NONE;
+        return collector.hasStarted() ? collector.expectedNumber & UNSIGNED : NONE;
     }
 
     public long counter(int counter) throws IllegalArgumentException {
@@ -497,74 +505,119 @@ public final class FlowExporter {
         return sums.indexWithRank(place, what);
     }
 
-    /** What a configuration text says, and which fields the collector supports now. */
-    private static final class Config {
-        private final int[] settings = new int[9];
-        private final int[][] rows = new int[MOST_TEMPLATES][FIELDS];
-        private final int[] rowLengths = new int[MOST_TEMPLATES];
-        private final int[] templateOfProtocol = new int[PROTOCOLS];
-        private int templates;
-        private int supported;
+    /** A row of different fields, with the set of them and the length of a record that has them. */
+    private static final class Template {
+        private final int[] fields = new int[FIELDS];
+        int size = 0;
+        int set = 0;
+        int recordBytes = 0;
 
         void clear() {
-            System.arraycopy(USUAL, 0, settings, 0, settings.length);
+            size = 0;
+            set = 0;
+            recordBytes = 0;
+        }
+
+        boolean has(int field) {
+            return field >= 0 && field < FIELDS && (set >> field & 1) == 1;
+        }
+
+        void addField(int field) {
+            if (field >= 0 && field < FIELDS && size < FIELDS && (set >> field & 1) == 0) {
+                fields[size] = field;
+                size++;
+                set |= 1 << field;
+                recordBytes += FIELD_BYTES[field];
+            }
+        }
+
+        int field(int place) {
+            return place >= 0 && place < size ? fields[place] : NONE;
+        }
+
+        /** Takes over those fields of the other one that are in the set of chosen ones. */
+        void copyFrom(Template other, int chosen) {
+            clear();
+            for (int place = 0; place < other.size; place++) {
+                int field = other.field(place);
+                if ((chosen >> field & 1) == 1) {
+                    addField(field);
+                }
+            }
+        }
+    }
+
+    /** What a configuration text says, and which fields the collector supports now. */
+    private static final class Config {
+        private final int[] settings = new int[SETTINGS];
+        private final int[] templateOfProtocol = new int[PROTOCOLS];
+        private final Template[] whole = new Template[MOST_TEMPLATES];
+        private final Template[] effective = new Template[MOST_TEMPLATES];
+        int templates = 0;
+        int supported = ALL_FIELDS;
+
+        Config() {
+            for (int k = 0; k < MOST_TEMPLATES; k++) {
+                whole[k] = new Template();
+                effective[k] = new Template();
+            }
+        }
+
+        void clear() {
+            System.arraycopy(USUAL, 0, settings, 0, SETTINGS);
             Arrays.fill(templateOfProtocol, 0);
-            Arrays.fill(rowLengths, 0);
+            for (int k = 0; k < MOST_TEMPLATES; k++) {
+                whole[k].clear();
+            }
             templates = 0;
             supported = ALL_FIELDS;
         }
 
         void copyFrom(Config other) {
-            System.arraycopy(other.settings, 0, settings, 0, settings.length);
-            for (int k = 0; k < MOST_TEMPLATES; k++) {
-                System.arraycopy(other.rows[k], 0, rows[k], 0, FIELDS);
-            }
-            System.arraycopy(other.rowLengths, 0, rowLengths, 0, MOST_TEMPLATES);
+            System.arraycopy(other.settings, 0, settings, 0, SETTINGS);
             System.arraycopy(other.templateOfProtocol, 0, templateOfProtocol, 0, PROTOCOLS);
+            for (int k = 0; k < MOST_TEMPLATES; k++) {
+                whole[k].copyFrom(other.whole[k], ALL_FIELDS);
+            }
             templates = other.templates;
-            supported = other.supported;
+            support(other.supported);
         }
 
+        void support(int set) {
+            supported = set;
+            for (int k = 0; k < MOST_TEMPLATES; k++) {
+                effective[k].copyFrom(whole[k], set);
+            }
+        }
+
+        /** Adds a template with all fields, which is there if the text has none. */
         void addUsualTemplate() {
-            addTemplate();
+            templates = 1;
             for (int field = 0; field < FIELDS; field++) {
-                addField(field);
+                whole[0].addField(field);
             }
         }
 
-        void addTemplate() {
-            if (templates < MOST_TEMPLATES) {
-                rowLengths[templates] = 0;
-                templates++;
+        Template template(int number) {
+            return whole[number >= 0 && number < MOST_TEMPLATES ? number : 0];
+        }
+
+        /** The template with those of its fields that the collector supports. */
+        Template effective(int number) {
+            return effective[number >= 0 && number < MOST_TEMPLATES ? number : 0];
+        }
+
+        void set(int setting, int value) {
+            if (setting >= 0 && setting < SETTINGS) {
+                settings[setting] = value;
             }
         }
 
-        /** Adds a field to the last template, if it does not have it yet. */
-        boolean addField(int field) {
-            int last = templates - 1;
-            if (last < 0 || last >= MOST_TEMPLATES || (fieldSet(last) >> field & 1) == 1) {
-                return false;
-            }
-            int length = rowLengths[last];
-            if (length >= FIELDS) {
-                return false;
-            }
-            rows[last][length] = field;
-            rowLengths[last] = length + 1;
-            return true;
+        int get(int setting) {
+            return setting >= 0 && setting < SETTINGS ? settings[setting] : 0;
         }
 
-        void setSetting(int which, int value) {
-            if (which >= 0 && which < settings.length) {
-                settings[which] = value;
-            }
-        }
-
-        int setting(int which) {
-            return which >= 0 && which < settings.length ? settings[which] : 0;
-        }
-
-        void setTemplateOf(int protocol, int template) {
+        void use(int protocol, int template) {
             if (protocol >= 0 && protocol < PROTOCOLS) {
                 templateOfProtocol[protocol] = template;
             }
@@ -573,56 +626,28 @@ public final class FlowExporter {
         int templateOf(int protocol) {
             return protocol >= 0 && protocol < PROTOCOLS ? templateOfProtocol[protocol] : 0;
         }
-
-        int fieldsOf(int template) {
-            return template >= 0 && template < templates ? rowLengths[template] : 0;
-        }
-
-        int field(int template, int place) {
-            return place >= 0 && place < fieldsOf(template) ? rows[template][place] : NONE;
-        }
-
-        int fieldSet(int template) {
-            int set = 0;
-            for (int place = 0; place < fieldsOf(template); place++) {
-                set |= 1 << field(template, place);
-            }
-            return set;
-        }
-
-        int effectiveSet(int template) {
-            return fieldSet(template) & supported;
-        }
-
-        int recordBytes(int template) {
-            int effective = effectiveSet(template);
-            int bytes = 0;
-            for (int field = 0; field < FIELDS; field++) {
-                if ((effective >> field & 1) == 1) {
-                    bytes += FIELD_BYTES[field];
-                }
-            }
-            return bytes;
-        }
     }
 
     /** Reads a configuration text into a configuration of its own, so that an error leaves the other one alone. */
     private static final class Parser {
         private static final int END = 0;
-        private static final int WORD = 1;
-        private static final int NUMBER = 2;
-        private static final int SEMICOLON = 3;
-        private static final int NO_TOKEN = 4;
+        private static final int BLANK = 1;
+        private static final int WORD = 2;
+        private static final int NUMBER = 3;
+        private static final int SEMICOLON = 4;
+        private static final int NO_TOKEN = 5;
+        private static final int MOST_LETTERS = 12;
+        private static final int MOST_DIGITS = 6;
 
         private static final int SYNTAX = 1;
         private static final int RANGE = 2;
         private static final int TWICE = 3;
         private static final int LIMIT = 4;
 
+        final Config config = new Config();
+        int code = 0;
+        int position = NONE;
         private final Message text;
-        private final Config config = new Config();
-        private int errorCode = 0;
-        private int errorPosition = NONE;
         private int next = 0;
         private int kind = END;
         private int start = 0;
@@ -634,8 +659,8 @@ public final class FlowExporter {
 
         int readText() {
             config.clear();
-            errorCode = 0;
-            errorPosition = NONE;
+            code = 0;
+            position = NONE;
             next = 0;
             for (int statements = 0; statements <= MOST_INPUT; statements++) {
                 nextToken();
@@ -652,9 +677,9 @@ public final class FlowExporter {
             return TEXT_ERROR;
         }
 
-        private boolean fail(int code) {
-            errorCode = code;
-            errorPosition = start;
+        private boolean fail(int error) {
+            code = error;
+            position = start;
             return false;
         }
 
@@ -678,34 +703,36 @@ public final class FlowExporter {
             return readSemicolon();
         }
 
-        private boolean readSetting(int which) {
-            if (which < 0 || which >= LEAST.length || which >= MOST.length) {
+        private boolean readSetting(int setting) {
+            if (setting < 0 || setting >= LEAST.length || setting >= MOST.length) {
                 return fail(SYNTAX);
             }
-            if (!readNumber(LEAST[which], MOST[which])) {
+            if (!readNumber(LEAST[setting], MOST[setting])) {
                 return false;
             }
-            config.setSetting(which, number);
+            config.set(setting, number);
             return true;
         }
 
         private boolean readTemplate() {
-            if (config.templates == MOST_TEMPLATES) {
+            if (config.templates >= MOST_TEMPLATES) {
                 return fail(LIMIT);
             }
-            config.addTemplate();
+            Template template = config.template(config.templates);
             for (int fields = 0; fields <= FIELDS; fields++) {
                 nextToken();
                 if (fields > 0 && kind == SEMICOLON) {
+                    config.templates++;
                     return true;
                 }
                 int field = wordIn(FIELD_WORDS);
                 if (field == NONE) {
                     return fail(SYNTAX);
                 }
-                if (!config.addField(field)) {
+                if (template.has(field)) {
                     return fail(TWICE);
                 }
+                template.addField(field);
             }
             return fail(SYNTAX);
         }
@@ -718,7 +745,7 @@ public final class FlowExporter {
             if (!readNumber(0, config.templates - 1)) {
                 return false;
             }
-            config.setTemplateOf(protocol, number);
+            config.use(protocol, number);
             return readSemicolon();
         }
 
@@ -736,6 +763,10 @@ public final class FlowExporter {
             nextToken();
             if (kind != NUMBER) {
                 return fail(SYNTAX);
+            }
+            number = 0;
+            for (int k = start; k < next; k++) {
+                number = 10 * number + text.byteAt(k) - '0';
             }
             return number >= least && number <= most || fail(RANGE);
         }
@@ -777,49 +808,38 @@ public final class FlowExporter {
         }
 
         private void nextToken() {
-            while (next < text.length && isBlank(text.byteAt(next))) {
+            while (next < text.length && kindOf(text.byteAt(next)) == BLANK) {
                 next++;
             }
             start = next;
-            int sign = text.byteAt(next);
+            kind = kindOf(text.byteAt(start));
+            if (kind == SEMICOLON || kind == NO_TOKEN) {
+                next++;
+                return;
+            }
+            while (next < text.length && kindOf(text.byteAt(next)) == kind) {
+                next++;
+            }
+            int most = kind == NUMBER ? MOST_DIGITS : MOST_LETTERS;
+            if (next - start > most) {
+                kind = NO_TOKEN;
+            }
+        }
+
+        private static int kindOf(int sign) {
             if (sign == NONE) {
-                kind = END;
-            } else if (isLetter(sign)) {
-                readWordToken();
-            } else if (isDigit(sign)) {
-                readNumberToken();
-            } else {
-                next++;
-                kind = sign == ';' ? SEMICOLON : NO_TOKEN;
+                return END;
             }
-        }
-
-        private void readWordToken() {
-            while (next < text.length && isLetter(text.byteAt(next))) {
-                next++;
+            if (sign == ' ' || sign == '\n') {
+                return BLANK;
             }
-            kind = next - start <= 12 ? WORD : NO_TOKEN;
-        }
-
-        private void readNumberToken() {
-            number = 0;
-            while (next < text.length && isDigit(text.byteAt(next))) {
-                number = number * 10 + text.byteAt(next) - '0';
-                next++;
+            if (sign >= 'a' && sign <= 'z') {
+                return WORD;
             }
-            kind = next - start <= 6 ? NUMBER : NO_TOKEN;
-        }
-
-        private static boolean isBlank(int sign) {
-            return sign == ' ' || sign == '\n';
-        }
-
-        private static boolean isLetter(int sign) {
-            return sign >= 'a' && sign <= 'z';
-        }
-
-        private static boolean isDigit(int sign) {
-            return sign >= '0' && sign <= '9';
+            if (sign >= '0' && sign <= '9') {
+                return NUMBER;
+            }
+            return sign == ';' ? SEMICOLON : NO_TOKEN;
         }
     }
 
@@ -828,11 +848,11 @@ public final class FlowExporter {
         private static final int[] PART_SHIFTS = {32, 24, 8, 0};
         private static final int[] PART_MASKS = {255, 255, 65535, 255};
 
-        private long flowKey;
-        private long packets;
-        private long bytes;
-        private int first;
-        private int last;
+        long flowKey = 0;
+        long packets = 0;
+        long bytes = 0;
+        int first = 0;
+        int last = 0;
 
         /** Returns the four parts as one number, NONE if one of them is out of its range. */
         static long keyOf(int source, int destination, int port, int protocol) {
@@ -879,7 +899,7 @@ public final class FlowExporter {
     /** Flows in the order in which they came; the objects behind the last one are kept to be used again. */
     private static final class FlowTable {
         private final Flow[] flows;
-        private int size = 0;
+        int size = 0;
 
         FlowTable(int most) {
             // One at least, so that flowAt always has one to answer with.
@@ -887,10 +907,6 @@ public final class FlowExporter {
             for (int k = 0; k < flows.length; k++) {
                 flows[k] = new Flow();
             }
-        }
-
-        void clear() {
-            size = 0;
         }
 
         boolean isFull() {
@@ -946,15 +962,10 @@ public final class FlowExporter {
     /** A row of bytes of limited length, with numbers whose most significant byte is first. */
     private static final class Message {
         private final byte[] content;
-        private int length = 0;
+        int length = 0;
 
         Message(int most) {
             content = new byte[Math.max(0, most)];
-        }
-
-        void copyFrom(Message other) {
-            length = Math.min(other.length, content.length);
-            System.arraycopy(other.content, 0, content, 0, length);
         }
 
         void put(long value, int bytes) {
@@ -975,6 +986,15 @@ public final class FlowExporter {
             }
         }
 
+        /** Appends bytes of another message. */
+        void putFrom(Message other, int from, int bytes) {
+            int fitting = Math.min(bytes, content.length - length);
+            if (fitting > 0 && from >= 0 && fitting <= other.length - from) {
+                System.arraycopy(other.content, from, content, length, fitting);
+                length += fitting;
+            }
+        }
+
         int byteAt(int place) {
             return place >= 0 && place < length ? content[place] & 255 : NONE;
         }
@@ -982,7 +1002,8 @@ public final class FlowExporter {
         long numberAt(int place, int bytes) {
             long number = 0;
             for (int k = 0; k < bytes; k++) {
-                number = number << 8 | byteAt(place + k) & 255;
+                int at = place + k;
+                number = number << 8 | (at >= 0 && at < length ? content[at] & 255 : 0);
             }
             return number;
         }
@@ -995,8 +1016,8 @@ public final class FlowExporter {
     /** The messages under way, and behind them one more in which the next message is written. */
     private static final class Queue {
         private final Message[] messages = new Message[MOST_MESSAGES + 1];
-        private int size = 0;
-        private int droppedMessages = 0;
+        int size = 0;
+        int droppedMessages = 0;
 
         Queue() {
             for (int k = 0; k < messages.length; k++) {
@@ -1013,8 +1034,11 @@ public final class FlowExporter {
             return messages[index >= 0 && index < messages.length ? index : 0];
         }
 
+        /** Returns the message behind the last one, emptied. */
         Message freeMessage() {
-            return messageAt(size);
+            Message message = messageAt(size);
+            message.length = 0;
+            return message;
         }
 
         void addFreeMessage() {
@@ -1049,24 +1073,20 @@ public final class FlowExporter {
         }
     }
 
-    /**
-     * Writes records into messages. A record is written at once when its flow is exported: the time, the
-     * templates and the settings are the same until the operation ends, so the messages are those that
-     * pending records would give.
-     */
+    /** Keeps the pending records and sends them in messages, with the templates that are due. */
     private static final class Sender {
         private final Config config;
         private final Queue queue;
+        // No operation exports more flows than the cache has.
+        private final Message pending = new Message(MOST_FLOWS * MOST_RECORD);
+        private final int[] pendingTemplates = new int[MOST_FLOWS];
+        private int pendingRecords = 0;
         // The number of the message in which a template was sent last, counted from 1; 0 if it counts as not sent.
         private final int[] lastMessages = new int[MOST_TEMPLATES];
         private final int[] lastTimes = new int[MOST_TEMPLATES];
-        private long sentRecords;
-        private int sentMessages;
-        private int sequenceNumber;
-        private boolean open;
-        private int records;
-        private int setTemplate;
-        private int setStart;
+        private int sentMessages = 0;
+        long sentRecords = 0;
+        int sequenceNumber = 0;
 
         Sender(Config config, Queue queue) {
             this.config = config;
@@ -1080,9 +1100,14 @@ public final class FlowExporter {
         }
 
         void restart() {
-            open = false;
+            emptyPending();
             sequenceNumber = 0;
             forgetTemplates();
+        }
+
+        private void emptyPending() {
+            pending.length = 0;
+            pendingRecords = 0;
         }
 
         void forgetTemplates() {
@@ -1090,81 +1115,101 @@ public final class FlowExporter {
         }
 
         void forgetTemplatesWith(int field) {
-            for (int template = 0; template < MOST_TEMPLATES; template++) {
-                if ((config.fieldSet(template) >> field & 1) == 1) {
-                    lastMessages[template] = 0;
+            for (int k = 0; k < MOST_TEMPLATES; k++) {
+                if (config.template(k).has(field)) {
+                    lastMessages[k] = 0;
                 }
             }
         }
 
         boolean mustSend(int template, int now) {
-            if (template < 0 || template >= MOST_TEMPLATES || config.effectiveSet(template) == 0) {
+            if (template < 0 || template >= MOST_TEMPLATES || config.effective(template).size == 0) {
                 return false;
             }
             return lastMessages[template] == 0
-                || sentMessages - lastMessages[template] >= config.setting(REFRESH_MESSAGES)
-                || now - lastTimes[template] >= config.setting(REFRESH_TICKS);
+                || sentMessages - lastMessages[template] >= config.get(REFRESH_MESSAGES)
+                || now - lastTimes[template] >= config.get(REFRESH_TICKS);
         }
 
-        void addRecord(Flow flow, int template, int rateBits, int now) {
-            int bytes = config.recordBytes(template);
-            if (open) {
+        void addRecord(Flow flow, int template, int rateBits) {
+            if (pendingRecords >= pendingTemplates.length) {
+                return;
+            }
+            pendingTemplates[pendingRecords] = template;
+            pendingRecords++;
+            Template effective = config.effective(template);
+            for (int place = 0; place < effective.size; place++) {
+                int field = effective.field(place);
+                long value = field == RATE ? rateBits : flow.value(field);
+                pending.put(value & UNSIGNED, lengthOf(field));
+            }
+        }
+
+        void sendPending(int now) {
+            if (pendingRecords == 0) {
+                return;
+            }
+            Message message = beginMessage(now);
+            int records = 0;
+            int setTemplate = NONE;
+            int setStart = 0;
+            int from = 0;
+            for (int k = 0; k < pendingRecords && k < pendingTemplates.length; k++) {
+                int template = pendingTemplates[k];
+                int bytes = config.effective(template).recordBytes;
                 int more = template == setTemplate ? bytes : bytes + SET_HEADER;
-                if (queue.freeMessage().length + more > config.setting(LENGTH)) {
-                    endMessage();
+                if (message.length + more > config.get(LENGTH)) {
+                    endMessage(message, records);
+                    message = beginMessage(now);
+                    records = 0;
+                    setTemplate = NONE;
                 }
+                if (template != setTemplate) {
+                    setTemplate = template;
+                    setStart = message.length;
+                    message.put(FIRST_ID + template, 2);
+                    message.put(0, 2);
+                }
+                message.putFrom(pending, from, bytes);
+                message.putAt(setStart + 2, message.length - setStart, 2);
+                from += bytes;
+                records++;
             }
-            if (!open) {
-                beginMessage(now);
-            }
-            Message message = queue.freeMessage();
-            if (template != setTemplate) {
-                setTemplate = template;
-                setStart = message.length;
-                message.put(FIRST_ID + template, 2);
-                message.put(0, 2);
-            }
-            putRecord(message, flow, template, rateBits);
-            message.putAt(setStart + 2, message.length - setStart, 2);
-            records++;
+            endMessage(message, records);
+            emptyPending();
         }
 
-        private void putRecord(Message message, Flow flow, int template, int rateBits) {
-            int effective = config.effectiveSet(template);
-            for (int place = 0; place < config.fieldsOf(template); place++) {
-                int field = config.field(template, place);
-                if ((effective >> field & 1) == 1) {
-                    long value = field == RATE ? rateBits : flow.value(field);
-                    message.put(value & UNSIGNED, FIELD_BYTES[field]);
-                }
-            }
-        }
-
-        private void beginMessage(int now) {
+        private Message beginMessage(int now) {
             Message message = queue.freeMessage();
-            message.length = 0;
             message.put(VERSION, 2);
             message.put(0, 2);
             message.put(now, 4);
             message.put(sequenceNumber, 4);
             message.put(0, 4);
-            open = true;
-            records = 0;
-            setTemplate = NONE;
             putTemplateSet(message, now);
+            return message;
+        }
+
+        private void endMessage(Message message, int records) {
+            message.putAt(2, message.length, 2);
+            message.putAt(12, records, 4);
+            queue.addFreeMessage();
+            sentMessages++;
+            sentRecords += records;
+            sequenceNumber += records;
         }
 
         private void putTemplateSet(Message message, int now) {
             int start = message.length;
-            for (int template = 0; template < MOST_TEMPLATES; template++) {
-                if (mustSend(template, now)) {
+            for (int k = 0; k < MOST_TEMPLATES; k++) {
+                if (mustSend(k, now)) {
                     if (message.length == start) {
                         message.put(TEMPLATE_SET, 2);
                         message.put(0, 2);
                     }
-                    putTemplate(message, template);
-                    lastMessages[template] = sentMessages + 1;
-                    lastTimes[template] = now;
+                    putTemplate(message, k);
+                    lastMessages[k] = sentMessages + 1;
+                    lastTimes[k] = now;
                 }
             }
             if (message.length > start) {
@@ -1173,30 +1218,14 @@ public final class FlowExporter {
         }
 
         private void putTemplate(Message message, int template) {
-            int effective = config.effectiveSet(template);
+            Template effective = config.effective(template);
             message.put(FIRST_ID + template, 2);
-            message.put(Integer.bitCount(effective), 2);
-            for (int place = 0; place < config.fieldsOf(template); place++) {
-                int field = config.field(template, place);
-                if ((effective >> field & 1) == 1) {
-                    message.put(field, 2);
-                    message.put(FIELD_BYTES[field], 2);
-                }
+            message.put(effective.size, 2);
+            for (int place = 0; place < effective.size; place++) {
+                int field = effective.field(place);
+                message.put(field, 2);
+                message.put(lengthOf(field), 2);
             }
-        }
-
-        void endMessage() {
-            if (!open) {
-                return;
-            }
-            Message message = queue.freeMessage();
-            message.putAt(2, message.length, 2);
-            message.putAt(12, records, 4);
-            queue.addFreeMessage();
-            sentMessages++;
-            sentRecords += records;
-            sequenceNumber += records;
-            open = false;
         }
     }
 
@@ -1204,17 +1233,17 @@ public final class FlowExporter {
     private static final class Exporter {
         private final Config config;
         private final Sender sender;
-        private final FlowTable cache = new FlowTable(MOST_FLOWS);
+        final FlowTable cache = new FlowTable(MOST_FLOWS);
         private final FlowTable truths = new FlowTable(MOST_KEYS);
-        private int now;
-        private int rate;
-        private int drawState;
-        private boolean adaptive;
-        private int exports;
-        private int exportsBeforeInterval;
-        private long observedPackets;
-        private long sampledPackets;
-        private long unsentFlows;
+        int now = 0;
+        int rate = 1;
+        int drawState = 1;
+        boolean adaptive = false;
+        int exports = 0;
+        private int exportsBeforeInterval = 0;
+        long observedPackets = 0;
+        long sampledPackets = 0;
+        long unsentFlows = 0;
 
         Exporter(Config config, Sender sender) {
             this.config = config;
@@ -1222,10 +1251,10 @@ public final class FlowExporter {
         }
 
         void clear() {
-            cache.clear();
-            truths.clear();
+            cache.size = 0;
+            truths.size = 0;
             now = 0;
-            rate = config.setting(SAMPLING);
+            rate = config.get(SAMPLING);
             drawState = 1;
             adaptive = false;
             exports = 0;
@@ -1235,6 +1264,7 @@ public final class FlowExporter {
             unsentFlows = 0;
         }
 
+        /** Returns how many of the packets were sampled. */
         int takePackets(long key, int bytes, int count) {
             observedPackets += count;
             remember(key, bytes, count);
@@ -1246,7 +1276,7 @@ public final class FlowExporter {
                 }
             }
             sampledPackets += taken;
-            sender.endMessage();
+            sender.sendPending(now);
             return taken;
         }
 
@@ -1269,7 +1299,7 @@ public final class FlowExporter {
             if (rate <= 1) {
                 return true;
             }
-            drawState = 1103515245 * drawState + 12345 & Integer.MAX_VALUE;
+            drawState = 1103515245 * drawState + 12345 & 0x7FFFFFFF;
             return drawState / 256 % rate == 0;
         }
 
@@ -1286,12 +1316,12 @@ public final class FlowExporter {
 
         private void exportAt(int index) {
             Flow flow = cache.removeAt(index);
-            int template = config.templateOf(Flow.partOf(flow.flowKey, 3));
+            int template = config.templateOf(Flow.partOf(flow.flowKey, PROTOCOL));
             exports++;
-            if (config.effectiveSet(template) == 0) {
+            if (config.effective(template).size == 0) {
                 unsentFlows++;
             } else {
-                sender.addRecord(flow, template, Numbers.bitsOfInverse(rate), now);
+                sender.addRecord(flow, template, bitsOfInverse(rate));
             }
         }
 
@@ -1301,27 +1331,32 @@ public final class FlowExporter {
             }
         }
 
+        /** Returns the number of flows. */
         int exportAllAndSend() {
             int flows = cache.size;
             exportAll();
-            sender.endMessage();
+            sender.sendPending(now);
             return flows;
         }
 
         void tick() {
             now++;
             exportOld();
-            if (now % 100 == 0) {
-                endInterval();
+            int next = now % 100 == 0 ? endInterval() : rate;
+            if (next != rate) {
+                exportAll();
+                rate = next;
             }
-            sender.endMessage();
+            sender.sendPending(now);
         }
 
         private void exportOld() {
+            int active = config.get(ACTIVE);
+            int inactive = config.get(INACTIVE);
             int index = 0;
             for (int left = cache.size; left > 0; left--) {
                 Flow flow = cache.flowAt(index);
-                if (now - flow.first >= config.setting(ACTIVE) || now - flow.last >= config.setting(INACTIVE)) {
+                if (now - flow.first >= active || now - flow.last >= inactive) {
                     exportAt(index);
                 } else {
                     index++;
@@ -1329,44 +1364,62 @@ public final class FlowExporter {
             }
         }
 
-        private void endInterval() {
+        /** Returns the rate for the next interval. */
+        private int endInterval() {
             int exported = exports - exportsBeforeInterval;
+            // What the change of the rate exports then counts for the next interval.
             exportsBeforeInterval = exports;
-            if (!adaptive) {
-                return;
+            int budget = config.get(BUDGET);
+            if (adaptive && exported > budget && rate <= MOST_RATE / 2) {
+                return 2 * rate;
             }
-            int budget = config.setting(BUDGET);
-            if (exported > budget && rate <= 512) {
-                exportAll();
-                rate = 2 * rate;
-            } else if (2 * exported < budget && rate >= 2) {
-                exportAll();
-                rate = rate / 2;
+            if (adaptive && 2 * exported < budget && rate >= 2) {
+                return rate / 2;
             }
+            return rate;
+        }
+
+        /** Returns the bits of the float 1f / number, for 1 to 1024; the language has no function for it. */
+        static int bitsOfInverse(int number) {
+            if (number < 1) {
+                return 0;
+            }
+            int exponent = 0;
+            while (exponent < 30 && 1 << exponent < number) {
+                exponent++;
+            }
+            // The quotient lies from 2^23 to 2^24, as a float's significand does; it is never
+            // halfway between two numbers, so adding half of the divisor rounds it.
+            long significand = ((1L << 23 + exponent) + number / 2) / number;
+            return (127 - exponent << 23) + (int) (significand - (1L << 23));
         }
     }
 
     /** Receives messages, decodes their records and counts what went wrong. */
     private static final class Collector {
         private static final int RECENT = 8;
+        private static final int BITS_OF_ONE = 0x3F800000;
 
         private final Config config;
         private final Sums sums;
-        private final int[][] rows = new int[MOST_TEMPLATES][FIELDS];
-        // 0 for a template that is not known: a known one has a field at least.
-        private final int[] rowLengths = new int[MOST_TEMPLATES];
+        // A template that is not known has no fields.
+        private final Template[] known = new Template[MOST_TEMPLATES];
         private final int[] receivedTimes = new int[MOST_TEMPLATES];
+        private final Template candidate = new Template();
         private final int[] recentNumbers = new int[RECENT];
         private final int[] recentTimes = new int[RECENT];
-        private final long[] counters = new long[COUNTERS];
+        final long[] counters = new long[COUNTERS];
         private final long[] values = new long[FIELDS];
-        private int accepted;
-        private int lastTime;
-        private int expectedNumber;
+        private int accepted = 0;
+        private int lastTime = 0;
+        int expectedNumber = 0;
 
         Collector(Config config, Sums sums) {
             this.config = config;
             this.sums = sums;
+            for (int k = 0; k < MOST_TEMPLATES; k++) {
+                known[k] = new Template();
+            }
         }
 
         void clear() {
@@ -1374,24 +1427,25 @@ public final class FlowExporter {
             restart();
         }
 
+        /** Returns the number of templates that were known. */
         int restart() {
-            int known = 0;
-            for (int template = 0; template < MOST_TEMPLATES; template++) {
-                if (rowLengths[template] > 0) {
-                    known++;
+            int count = 0;
+            for (int k = 0; k < MOST_TEMPLATES; k++) {
+                if (known[k].size > 0) {
+                    count++;
                 }
+                known[k].clear();
             }
-            Arrays.fill(rowLengths, 0);
             accepted = 0;
-            return known;
+            return count;
         }
 
-        boolean started() {
+        boolean hasStarted() {
             return accepted > 0;
         }
 
         int ageOf(int template, int now) {
-            if (template < 0 || template >= MOST_TEMPLATES || rowLengths[template] == 0) {
+            if (template < 0 || template >= MOST_TEMPLATES || known[template].size == 0) {
                 return NONE;
             }
             return now - receivedTimes[template];
@@ -1399,14 +1453,14 @@ public final class FlowExporter {
 
         private boolean isUsable(int template, int now) {
             int age = ageOf(template, now);
-            return age != NONE && age <= config.setting(LIFETIME);
+            return age != NONE && age <= config.get(LIFETIME);
         }
 
         int usableTemplates(int now) {
             int set = 0;
-            for (int template = 0; template < MOST_TEMPLATES; template++) {
-                if (isUsable(template, now)) {
-                    set |= 1 << template;
+            for (int k = 0; k < MOST_TEMPLATES; k++) {
+                if (isUsable(k, now)) {
+                    set |= 1 << k;
                 }
             }
             return set;
@@ -1425,6 +1479,7 @@ public final class FlowExporter {
                 counters[DUPLICATES]++;
                 return 0;
             }
+            // As an int, a number of records from 2^31 on is negative: it counts as 0.
             account(number, time, Math.max(0, message.intAt(12, 4)));
             return readSets(message, now);
         }
@@ -1439,7 +1494,7 @@ public final class FlowExporter {
         }
 
         private void account(int number, int time, int records) {
-            int ahead = started() ? number - expectedNumber : 0;
+            int ahead = hasStarted() ? number - expectedNumber : 0;
             boolean restarted = ahead < 0 && number == 0 && time > lastTime;
             boolean late = ahead < 0 && !restarted;
             if (ahead > 0) {
@@ -1489,71 +1544,56 @@ public final class FlowExporter {
                 int template = message.intAt(at, 2) - FIRST_ID;
                 int fields = message.intAt(at + 2, 2);
                 at += 4;
-                if (template < 0 || template >= MOST_TEMPLATES || fields * 4 > to - at) {
+                if (template < 0 || template >= MOST_TEMPLATES || 4 * fields > to - at) {
                     return;
                 }
-                if (!isGoodRow(message, at, fields)) {
+                if (!readCandidate(message, at, fields)) {
                     return;
                 }
-                for (int k = 0; k < fields && k < FIELDS; k++) {
-                    rows[template][k] = message.intAt(at + 4 * k, 2);
-                }
-                rowLengths[template] = Math.min(fields, FIELDS);
+                known[template].copyFrom(candidate, ALL_FIELDS);
                 receivedTimes[template] = now;
                 at += 4 * fields;
             }
         }
 
-        private static boolean isGoodRow(Message message, int at, int fields) {
-            int seen = 0;
+        /** Returns whether the fields make a template; a wrong one must leave the known one as it is. */
+        private boolean readCandidate(Message message, int from, int fields) {
+            candidate.clear();
             for (int k = 0; k < fields; k++) {
-                int field = message.intAt(at + 4 * k, 2);
-                if (field < 0 || field >= FIELDS || (seen >> field & 1) == 1) {
+                int field = message.intAt(from + 4 * k, 2);
+                int length = message.intAt(from + 4 * k + 2, 2);
+                if (field >= FIELDS || length != lengthOf(field) || candidate.has(field)) {
                     return false;
                 }
-                if (message.intAt(at + 4 * k + 2, 2) != FIELD_BYTES[field]) {
-                    return false;
-                }
-                seen |= 1 << field;
+                candidate.addField(field);
             }
-            return fields > 0;
+            return candidate.size > 0;
         }
 
         private int readData(Message message, int from, int to, int template, int now) {
-            if (!isUsable(template, now)) {
+            if (template < 0 || template >= MOST_TEMPLATES || !isUsable(template, now)) {
                 counters[UNDECODABLE]++;
                 return 0;
             }
-            int bytes = bytesOf(template);
+            Template row = known[template];
             int decoded = 0;
-            for (int at = from; bytes > 0 && to - at >= bytes; at += bytes) {
-                decode(message, at, template);
+            for (int at = from; row.recordBytes > 0 && to - at >= row.recordBytes; at += row.recordBytes) {
+                decode(message, at, row);
                 decoded++;
             }
             counters[DECODED] += decoded;
             return decoded;
         }
 
-        private int fieldIn(int template, int place) {
-            int field = rows[template][place];
-            return field >= 0 && field < FIELDS ? field : 0;
-        }
-
-        private int bytesOf(int template) {
-            int bytes = 0;
-            for (int k = 0; k < rowLengths[template] && k < FIELDS; k++) {
-                bytes += FIELD_BYTES[fieldIn(template, k)];
-            }
-            return bytes;
-        }
-
-        private void decode(Message message, int from, int template) {
+        private void decode(Message message, int from, Template row) {
             Arrays.fill(values, 0);
             int at = from;
-            for (int k = 0; k < rowLengths[template] && k < FIELDS; k++) {
-                int field = fieldIn(template, k);
-                values[field] = message.numberAt(at, FIELD_BYTES[field]);
-                at += FIELD_BYTES[field];
+            for (int place = 0; place < row.size; place++) {
+                int field = row.field(place);
+                if (field >= 0 && field < FIELDS) {
+                    values[field] = message.numberAt(at, FIELD_BYTES[field]);
+                    at += FIELD_BYTES[field];
+                }
             }
             long key = Flow.keyOf((int) values[0], (int) values[1], (int) values[2], (int) values[3]);
             int index = sums.indexOrNew(key);
@@ -1562,22 +1602,36 @@ public final class FlowExporter {
                 return;
             }
             // A missing field has the bits 0, which are no rate either.
-            int rate = Numbers.rateOfBits((int) values[RATE], config.setting(ASSUME));
+            int rate = rateOfBits((int) values[RATE], config.get(ASSUME));
             sums.add(index, values[PACKETS], values[BYTES], rate);
+        }
+
+        /** Returns the rate for the bits of a float, the assumed one if the float is not in (0, 1]. */
+        private static int rateOfBits(int bits, int assumed) {
+            if (bits <= 0 || bits > BITS_OF_ONE) {
+                return assumed;
+            }
+            int exponent = bits >> 23;
+            if (exponent < 117) {
+                // Less than 1 / 1024; some of these floats would have an inverse that is infinite.
+                return MOST_RATE;
+            }
+            int significand = bits & 0x7FFFFF | 0x800000;
+            float inverse = (float) significand / (float) (1L << 150 - exponent);
+            return inverse > 0 ? Math.min(MOST_RATE, (int) (1f / inverse + 0.5f)) : assumed;
         }
     }
 
     /** What the collector knows of each key: raw sums, estimates and variances, of packets (0) and of bytes (1). */
     private static final class Sums {
-        private final long[] keys = new long[MOST_KEYS];
-        private final long[][] raws = new long[2][MOST_KEYS];
-        private final long[][] estimates = new long[2][MOST_KEYS];
-        private final double[][] variances = new double[2][MOST_KEYS];
-        private int size = 0;
+        private static final long TWO_TO_52 = 1L << 52;
+        private static final long TWO_TO_54 = 1L << 54;
 
-        void clear() {
-            size = 0;
-        }
+        final long[] keys = new long[MOST_KEYS];
+        final long[][] raws = new long[2][MOST_KEYS];
+        final long[][] estimates = new long[2][MOST_KEYS];
+        private final double[][] variances = new double[2][MOST_KEYS];
+        int size = 0;
 
         int indexOf(long key) {
             for (int k = 0; k < size; k++) {
@@ -1618,18 +1672,14 @@ public final class FlowExporter {
             }
         }
 
-        private double margin(int index, int what) {
-            return 1.96 * Numbers.root(variances[what][index]);
-        }
-
         double lowerBound(int index, int what) {
-            double bound = (double) estimates[what][index] - margin(index, what);
+            double bound = (double) estimates[what][index] - margin(variances[what][index]);
             double least = (double) raws[what][index];
             return bound > least ? bound : least;
         }
 
         double upperBound(int index, int what) {
-            return (double) estimates[what][index] + margin(index, what);
+            return (double) estimates[what][index] + margin(variances[what][index]);
         }
 
         long estimateOfAll(int what) {
@@ -1645,7 +1695,7 @@ public final class FlowExporter {
             for (int k = 0; k < size; k++) {
                 sum += variances[what][k];
             }
-            return 1.96 * Numbers.root(sum);
+            return margin(sum);
         }
 
         int indexWithRank(int rank, int what) {
@@ -1658,59 +1708,23 @@ public final class FlowExporter {
         }
 
         private int rankOf(int index, int what) {
+            long own = estimates[what][index];
             int before = 0;
             for (int k = 0; k < size; k++) {
-                long ahead = estimates[what][k];
-                long own = estimates[what][index];
-                if (ahead > own || ahead == own && k < index) {
+                long other = estimates[what][k];
+                if (other > own || other == own && k < index) {
                     before++;
                 }
             }
             return before;
         }
-    }
 
-    /** Arithmetic on doubles and floats that the language leaves us to do by hand. */
-    private static final class Numbers {
-        private static final int BITS_OF_ONE = 0x3F800000;
-        private static final long TWO_TO_52 = 1L << 52;
-        private static final long TWO_TO_54 = 1L << 54;
-
-        private Numbers() {
+        private static double margin(double variance) {
+            return 1.96 * root(variance);
         }
 
-        /** Returns the bits of the float 1f / rate, for 1 to 1024. */
-        static int bitsOfInverse(int rate) {
-            if (rate < 1) {
-                return 0;
-            }
-            int exponent = 0;
-            while (exponent < 30 && 1 << exponent < rate) {
-                exponent++;
-            }
-            // The quotient lies from 2^23 to 2^24, the place of a float's significand; it is
-            // never halfway between two numbers, so adding half of the divisor rounds it.
-            long significand = ((1L << 23 + exponent) + rate / 2) / rate;
-            return (127 - exponent << 23) + (int) (significand - (1L << 23));
-        }
-
-        /** Returns the rate whose inverse has these bits as a float, the assumed one if it is not in (0, 1]. */
-        static int rateOfBits(int bits, int assumed) {
-            if (bits <= 0 || bits > BITS_OF_ONE) {
-                return assumed;
-            }
-            int exponent = bits >> 23;
-            if (exponent < 117) {
-                // Less than 1 / 1024.
-                return MOST_RATE;
-            }
-            int significand = bits & 0x7FFFFF | 0x800000;
-            float inverse = (float) significand / (float) (1L << 150 - exponent);
-            return inverse > 0 ? Math.min(MOST_RATE, (int) (1f / inverse + 0.5f)) : assumed;
-        }
-
-        /** Returns the double that is nearest to the square root; 0 for what is not positive. */
-        static double root(double square) {
+        /** Returns the double that is nearest to the square root; the language has no function for it. */
+        private static double root(double square) {
             if (!(square > 0)) {
                 return 0;
             }
@@ -1724,35 +1738,41 @@ public final class FlowExporter {
                 scaled = scaled * 4;
                 doublings--;
             }
-            return scale(rootOf53Bits((long) scaled), doublings - 26);
+            // From 2^52 on a double is a whole number, so the cast loses nothing.
+            return timesPowerOfTwo(scaledRoot((long) scaled), doublings - 26);
         }
 
-        /** Returns 2^26 times the square root of a number from 2^52 to 2^54, rounded, found bit by bit. */
-        private static long rootOf53Bits(long radicand) {
+        /** Returns 2^26 times the square root of a number from 2^52 to 2^54, rounded; it is found bit by bit. */
+        private static long scaledRoot(long square) {
             long root = 0;
             long rest = 0;
             for (int bit = 52; bit >= 0; bit--) {
-                long pair = bit >= 26 ? radicand >> 2 * (bit - 26) & 3 : 0;
-                rest = 4 * rest + pair;
+                long pair = bit >= 26 ? square >> 2 * (bit - 26) & 3 : 0;
                 long trial = 4 * root + 1;
+                rest = 4 * rest + pair;
                 root = 2 * root;
                 if (rest >= trial) {
                     rest -= trial;
                     root++;
                 }
             }
+            // (root + 1/2)^2 is root^2 + root + 1/4: a rest above root is more than half of the way.
             return rest > root ? root + 1 : root;
         }
 
-        private static double scale(long number, int doublings) {
-            double scaled = (double) number;
-            for (int k = 0; k < doublings; k++) {
-                scaled = scaled * 2;
+        private static double timesPowerOfTwo(long number, int power) {
+            double product = (double) number;
+            for (int k = 0; k < power; k++) {
+                product = product * 2;
             }
-            for (int k = doublings; k < 0; k++) {
-                scaled = scaled / 2;
+            for (int k = power; k < 0; k++) {
+                product = product / 2;
             }
-            return scaled;
+            return product;
         }
+    }
+
+    private static int lengthOf(int field) {
+        return field >= 0 && field < FIELDS ? FIELD_BYTES[field] : 0;
     }
 }
