@@ -89,6 +89,11 @@ public final class CollectorTest {
         check.due("65535 fields", known(good + "0100 ffff 0000 0001"), 2);
         check.due("all fields", known("0100 0009 0008 0004 0007 0004 0006 0004 0005 0008 0004 0004 0003 0001"
             + "0002 0002 0001 0001 0000 0001"), 1);
+        check.due("field 9 of no bytes", known("0100 0002 0009 0000 0000 0001" + good), 0);
+        // The bytes of the next set do not help: its id and length look like the field bytes.
+        FlowExporter y = new FlowExporter();
+        put(y, 0, 0, 0, "0002 000c 0100 0002 0000 0001 0005 0008 00000000");
+        check.due("the bytes of the set do not suffice", y.knownTemplates(), 0);
         // A template replaces the one of its id; a wrong one leaves it.
         FlowExporter x = new FlowExporter();
         put(x, 0, 0, 0, SOURCE);

@@ -168,6 +168,18 @@ public final class EstimateTest {
 
     /** Roots as Math.sqrt rounds them, over variances that one record can give. */
     private static void roots() {
+        // 2^54 + 4, whose root is just below the half between two doubles.
+        long variance = (1L << 54) + 4;
+        long packetsOf1024 = variance / (1024 * 1023);
+        long rest = (variance - packetsOf1024 * 1024 * 1023) / 2;
+        FlowExporter half = new FlowExporter();
+        put(half, 0, record(1, (int) rest, 0, bits(2)));
+        for (int time = 1; packetsOf1024 > 0; time++) {
+            long packets = Math.min(packetsOf1024, 0xFFFFFFFFL);
+            put(half, time, record(1, (int) packets, 0, bits(1024)));
+            packetsOf1024 -= packets;
+        }
+        check.dueDouble("a root below the half", half.totalMargin(0), 1.96 * Math.sqrt(variance));
         Random random = new Random(11);
         int[] rates = {2, 3, 5, 10, 100, 1000, 1024};
         for (int k = 0; k < 20000; k++) {
@@ -178,11 +190,11 @@ public final class EstimateTest {
             long unsigned = packets & 0xFFFFFFFFL;
             put(x, 0, record(1, packets, bytes, bits(n)));
             double factor = (double) n * (n - 1);
-            double variance = unsigned == 0 ? 0 : factor * bytes * bytes / unsigned;
+            double ofBytes = unsigned == 0 ? 0 : factor * bytes * bytes / unsigned;
             check.dueDouble("margin of packets " + packets + ", " + n, x.totalMargin(0),
                 1.96 * Math.sqrt(factor * unsigned));
             check.dueDouble("margin of bytes " + bytes + ", " + packets + ", " + n, x.totalMargin(1),
-                1.96 * Math.sqrt(variance));
+                1.96 * Math.sqrt(ofBytes));
         }
     }
 

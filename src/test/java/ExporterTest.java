@@ -87,6 +87,11 @@ public final class ExporterTest {
         // With N = 1 nothing is drawn: the state stays as it is.
         x.setRate(1);
         x.observeMany(1, 1, 1, 1, 1, 100);
+        x.setRate(2);
+        for (int k = 0; k < 50; k++) {
+            state = (1103515245L * state + 12345L) % (1L << 31);
+            check.due("draw of 2, " + k, x.observe(1, 1, 1, 1, 1), state / 256 % 2 == 0);
+        }
         x.setRate(1024);
         int many = 0;
         for (int k = 0; k < 200; k++) {
@@ -139,6 +144,19 @@ public final class ExporterTest {
         check.due("its record", x.messageByte(0, 64), 1);
         x.observe(21, 0, 0, 0, 1);
         check.due("then 3", x.messageByte(1, 20), 3);
+        // The first one of all, on a tie and without one.
+        FlowExporter y = new FlowExporter();
+        for (int k = 0; k < 13; k++) {
+            y.observe(k, 0, 0, 0, 1);
+        }
+        check.due("the first on a tie", y.messageByte(0, 64), 0);
+        FlowExporter z = new FlowExporter();
+        for (int k = 0; k < 14; k++) {
+            z.observe(k, 0, 0, 0, 1);
+            z.advance(1);
+        }
+        check.due("the earliest", z.messageByte(0, 64), 0);
+        check.due("the next", z.messageByte(1, 20), 1);
         x.setRate(1024);
         x.setSeed(1);
         x.observe(30, 0, 0, 0, 1);
@@ -282,6 +300,11 @@ public final class ExporterTest {
         export(x, 1);
         x.advance(100);
         check.due("twice 1 is less than 4", x.rate(), 4);
+        FlowExporter five = Check.loaded("sampling 4;budget 5;");
+        five.setAdaptive(true);
+        export(five, 2);
+        five.advance(100);
+        check.due("twice 2 is less than 5", five.rate(), 2);
         x.setAdaptive(false);
         export(x, 9);
         x.advance(100);

@@ -10,6 +10,7 @@ public final class InputTest {
         firstErrorCounts();
         errorChangesNothingElse();
         goodTextReplacesEverything();
+        sumsAreForgotten();
         check.finish();
     }
 
@@ -121,6 +122,12 @@ public final class InputTest {
         bad("sampling -5;", 1, 9);
         bad("samplin 5;", 1, 0);
         bad("samplings 5;", 1, 0);
+        bad("samplingz 5;", 1, 0);
+        bad("samplinga 5;", 1, 0);
+        bad("sampling{5;", 1, 8);
+        bad("sampling`5;", 1, 8);
+        bad("sampling 5:", 1, 10);
+        bad("sampling 5/;", 1, 10);
         bad("abcdefghijkl 5;", 1, 0);
         bad("abcdefghijklm 5;", 1, 0);
         bad("sampling 0000007;", 1, 9);
@@ -208,19 +215,28 @@ public final class InputTest {
     }
 
     private static void goodTextReplacesEverything() {
-        FlowExporter x = Check.loaded("template port;template source packets;use 9 1;drop bytes;length 256;");
+        FlowExporter x = Check.loaded("template port;template source packets;use 9 1;drop bytes;length 256;budget 1;");
         x.setSeed(99);
         x.setAdaptive(true);
+        x.observeMany(7, 7, 7, 7, 7, 5);
         for (int k = 0; k < 20; k++) {
             x.observe(k, k, k, 9, 9);
             x.flush();
         }
         check.due("dropped before", x.dropped(), 8);
-        x.deliverAll();
+        x.deliver(0);
         x.receive();
+        x.setSupport(2, false);
+        x.observe(1, 1, 1, 1, 1);
+        x.flush();
+        check.due("unsent before", x.unsent(), 1);
         x.advance(10);
         x.observe(1, 1, 1, 1, 1);
         check.due("an empty text", Check.load(x, ""), 0);
+        likeNew(x);
+    }
+
+    private static void likeNew(FlowExporter x) {
         check.due("now", x.now(), 0);
         check.due("setAdaptive", x.setAdaptive(false), false);
         check.due("templateCount", x.templateCount(), 1);
@@ -239,7 +255,8 @@ public final class InputTest {
         check.due("templateAge", x.templateAge(1), -1);
         check.due("expected", x.expected(), -1);
         check.due("keyCount", x.keyCount(), 0);
-        check.due("truth", x.truth(1, 1, 1, 1, 0), 0);
+        check.due("truth", x.truth(7, 7, 7, 7, 0), 0);
+        check.due("truth of another", x.truth(1, 1, 1, 1, 0), 0);
         for (int k = 0; k < 9; k++) {
             check.due("counter " + k, x.counter(k), 0);
         }
@@ -248,8 +265,42 @@ public final class InputTest {
         x.setRate(5);
         y.setRate(5);
         for (int k = 0; k < 30; k++) {
-            check.due("draw " + k, x.observe(1, 1, 1, 1, 1), y.observe(1, 1, 1, 1, 1));
+            check.due("draw " + k, x.observe(1, 1, 1, 9, 1), y.observe(1, 1, 1, 9, 1));
         }
-        check.due("use is forgotten", x.templateCount(), 1);
+        x.flush();
+        y.flush();
+        check.dueObject("the template of a protocol", Check.hex(Check.message(x, 0)), Check.hex(Check.message(y, 0)));
+        x.deliverAll();
+        y.deliverAll();
+        for (int what = 0; what < 2; what++) {
+            check.due("raw", x.raw(0, what), y.raw(0, what));
+            check.due("estimate", x.estimate(0, what), y.estimate(0, what));
+            check.dueDouble("upper", x.upper(0, what), y.upper(0, what));
+        }
+        x.setAdaptive(true);
+        x.advance(100);
+        check.due("the exports before do not count", x.rate(), 2);
+    }
+
+    private static void sumsAreForgotten() {
+        FlowExporter x = new FlowExporter();
+        for (int round = 0; round < 2; round++) {
+            x.setRate(2);
+            x.setSeed(1);
+            x.observeMany(1, 1, 1, 1, 100, 200);
+            x.flush();
+            x.deliverAll();
+            FlowExporter y = new FlowExporter();
+            y.setRate(2);
+            y.observeMany(1, 1, 1, 1, 100, 200);
+            y.flush();
+            y.deliverAll();
+            for (int what = 0; what < 2; what++) {
+                check.due("raw of round " + round, x.raw(0, what), y.raw(0, what));
+                check.due("estimate of round " + round, x.estimate(0, what), y.estimate(0, what));
+                check.dueDouble("upper of round " + round, x.upper(0, what), y.upper(0, what));
+            }
+            Check.load(x, "");
+        }
     }
 }

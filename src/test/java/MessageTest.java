@@ -88,6 +88,11 @@ public final class MessageTest {
     }
 
     private static void severalSets() {
+        FlowExporter zero = Check.loaded("template source;template port;use 0 1;use 255 1;");
+        zero.observe(0, 0, 0x4142, 0, 1);
+        zero.observe(0, 0, 0x4344, 255, 1);
+        zero.flush();
+        check.dueObject("protocols 0 and 255", Check.hex(Check.message(zero, 0)).substring(72), "0101000841424344");
         FlowExporter x = Check.loaded("template source;template port;use 1 1;use 2 1;");
         x.observe(1, 0, 7, 0, 1);
         x.observe(2, 0, 7, 1, 1);
