@@ -313,6 +313,11 @@ public final class ExporterTest {
         export(x, 2);
         x.advance(100);
         check.due("exports of the interval before do not count", x.rate(), 4);
+        Check.load(x, "sampling 4;budget 4;");
+        x.setAdaptive(true);
+        export(x, 5);
+        x.advance(100);
+        check.due("exports before the load do not count", x.rate(), 8);
         // Unsent flows count, and so do those of the tick itself; those of the change count for the next interval.
         FlowExporter y = Check.loaded("budget 1;active 100;inactive 10000;");
         for (int k = 0; k < 9; k++) {

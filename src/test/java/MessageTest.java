@@ -117,6 +117,8 @@ public final class MessageTest {
             x.flush();
             int first = length >= 296 ? 8 : length >= 267 ? 7 : 6;
             check.due("first message of " + length, x.messageLength(0), 64 + 29 * first);
+            check.due("its length field", x.messageByte(0, 2) * 256 + x.messageByte(0, 3), 64 + 29 * first);
+            check.due("its set's length", x.messageByte(0, 62) * 256 + x.messageByte(0, 63), 4 + 29 * first);
             check.due("its records", x.messageByte(0, 15), first);
             check.due("second message of " + length, x.messageLength(1), 20 + 29 * (12 - first));
             check.due("its sequence number", x.messageByte(1, 11), first);
