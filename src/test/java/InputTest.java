@@ -54,7 +54,7 @@ public final class InputTest {
         check.due("load", x.load(), -2);
         check.due("the last byte", x.errorPosition(), 699);
         check.due("load empties the buffer", x.truncateInput(1), -1);
-        // The order of the bytes: "abcd" and so on is a word that is too long behind 12 letters.
+        // "sampling 1024;budget 7;", the most significant byte first.
         x.appendInput(0x73616d70, 0x6c696e67, 0x20313032, 0x343b6275, 0x64676574);
         x.appendInput(0x20373b00, 0, 0, 0, 0);
         x.truncateInput(23);

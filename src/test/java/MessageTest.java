@@ -99,11 +99,9 @@ public final class MessageTest {
         x.observe(3, 0, 8, 2, 1);
         x.observe(4, 0, 7, 3, 1);
         x.flush();
-        String want = "000a 0038 00000000 00000000 00000004"
+        String want = "000a 0036 00000000 00000000 00000004"
             + "0002 0014 0100 0001 0000 0001 0101 0001 0002 0002"
             + "0100 0005 01 0101 0008 0007 0008 0100 0005 04";
-        // 16 + 20 + 5 + 8 + 5
-        want = want.replace("0038", "0036");
         check.dueObject("sets", Check.hex(Check.message(x, 0)), want.replace(" ", ""));
     }
 
@@ -285,7 +283,7 @@ public final class MessageTest {
         }
         check.due("queueLength", x.queueLength(), 2);
         check.due("messageByte 0 92", x.messageByte(0, 92), 0);
-        check.due("messageByte 0 91", x.messageByte(0, 90), 0x80);
+        check.due("messageByte 0 90", x.messageByte(0, 90), 0x80);
         check.due("messageByte 0 93", x.messageByte(0, 93), -1);
         check.due("messageByte 1 49", x.messageByte(1, 49), -1);
         check.due("messageByte 0 -1", x.messageByte(0, -1), -1);
