@@ -3,32 +3,48 @@ import java.util.Objects;
 /** Counts answers that are not the ones that are due, and feeds texts and messages to an exporter. */
 final class Check {
     private int wrong = 0;
+    private int asked = 0;
+    private String about = "";
+
+    /** What the next reports are about: it stands before each of them. */
+    void about(String text) {
+        about = text.isEmpty() ? "" : text + ": ";
+    }
+
+    int asked() {
+        return asked;
+    }
 
     void due(String call, long got, long want) {
+        asked++;
         if (got != want) {
             report(call + " answered " + got + ", due is " + want);
         }
     }
 
     void due(String call, boolean got, boolean want) {
+        asked++;
         if (got != want) {
             report(call + " answered " + got + ", due is " + want);
         }
     }
 
     void dueDouble(String call, double got, double want) {
+        asked++;
         if (Double.doubleToLongBits(got) != Double.doubleToLongBits(want)) {
             report(call + " answered " + got + ", due is " + want);
         }
     }
 
     void dueObject(String call, Object got, Object want) {
+        asked++;
         if (!Objects.equals(got, want)) {
             report(call + " answered " + got + ", due is " + want);
         }
     }
 
     void dueThrow(String call, Class<? extends RuntimeException> want, Runnable body) {
+        asked++;
         Class<?> got = null;
         try {
             body.run();
@@ -43,7 +59,7 @@ final class Check {
     void report(String text) {
         wrong++;
         if (wrong <= 40) {
-            System.out.println(text);
+            System.out.println(about + text);
         }
     }
 

@@ -1,17 +1,25 @@
 /** The values that hold without a statement, and that one statement leaves the others alone. */
 public final class DefaultsTest {
-    private static final Check check = new Check();
+    private static final Edges edges = new Edges();
+    private static final Check check = edges.check;
 
     public static void main(String[] args) {
-        budget();
-        active();
-        inactive();
-        refresh();
-        lifetime();
-        length();
-        assume();
-        statementsLeaveTheOthers();
-        check.finish();
+        String values = "without these statements 1, 100, 1000, 100, 20 and 1000, 5000, 512, 1;";
+        edges.terms(values, DefaultsTest::sampling);
+        edges.terms(values, DefaultsTest::budget);
+        edges.terms(values, DefaultsTest::active);
+        edges.terms(values, DefaultsTest::inactive);
+        edges.terms(values, DefaultsTest::refresh);
+        edges.terms(values, DefaultsTest::lifetime);
+        edges.terms(values, DefaultsTest::length);
+        edges.terms(values, DefaultsTest::assume);
+        edges.terms(values, DefaultsTest::statementsLeaveTheOthers);
+        edges.finish();
+    }
+
+    private static void sampling() {
+        check.due("rate", new FlowExporter().rate(), 1);
+        check.due("rate of a text", Check.loaded("budget 5;").rate(), 1);
     }
 
     private static void export(FlowExporter x, int flows) {
